@@ -226,6 +226,8 @@ public final class ChainsTest {
     checks.equal("each other one: who is who", x.nods(2, 3, 1, 4, 7, 0), 3);
     checks.equal("and turned", x.nods(1, 4, 2, 3, 7, 0), 3);
     checks.equal("its first", x.nods(2, 3, 1, 4, 7, 1), 3);
+    checks.equal("all the longest", x.nods(9, 9, 9, 9, 9999, 0), 4995);
+    checks.equal("all the longest: the first", x.nods(9, 9, 9, 9, 9999, 1), 10);
   }
 
   private static void promise14NodsRefused() {

@@ -104,6 +104,10 @@ public final class HeapsTest {
     checks.equal("unknown cell before outside", x.heap(0, 25, 10, 10), UNKNOWN);
     checks.equal("outside before state", x.heap(0, 8, 10, 0), OUTSIDE);
     checks.unchanged("heap refused", x, before);
+    x.heap(1, 0, 0, 0);
+    checks.equal("another one is there, on the first cell", x.heap(0, 0, 3, 4), STATE);
+    x.heap(1, 24, 0, 0);
+    checks.equal("another one is there, on the last cell", x.heap(5, 24, 3, 4), STATE);
   }
 
   private static void promise3Burners() {

@@ -195,6 +195,10 @@ public final class WeeksTest {
     thenIs(x, "A^B^.A^", 0, 4, 2, 0, 1, NONE, NONE);
     thenIs(x, "C-C-C-C-..", 3, 0, 0, 4, 2, 4, 0);
     thenIs(x, "A+.Cb.", 2, 0, 0, 2, 2, 1, 1);
+    for (String act : new String[] {"Fd", "FdF+", "FdF-", "FdF*"}) {
+      thenIs(x, act, 0, 0, 0, 0, 0, NONE, NONE);
+    }
+    thenIs(x, "FdF^", 0, 0, 32, 0, 0, NONE, NONE);
     checks.equal("nothing is known yet", x.told(2), 0);
     Checks.tell(x, ".");
     checks.equal("done", x.done(), 1);
