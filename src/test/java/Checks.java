@@ -4,22 +4,40 @@ import java.util.Arrays;
 final class Checks {
   private int passed;
   private int failed;
+  private int sentences;
+  private String sentence = "";
+  private int checksOfSentence;
 
-  void equal(String what, long got, long want) {
-    if (got == want) {
-      passed++;
-    } else {
+  /** Says which words of the document the checks from here on are for, and what promise these belong to. */
+  void about(int promise, String words) {
+    endSentence();
+    sentences++;
+    sentence = "promise " + promise + " (" + words + "): ";
+    checksOfSentence = 0;
+  }
+
+  private void endSentence() {
+    if (!sentence.isEmpty() && checksOfSentence == 0) {
       failed++;
-      System.out.println(what + " answered " + got + ", due is " + want);
+      System.out.println(sentence + "nothing was checked");
     }
   }
 
+  void equal(String what, long got, long want) {
+    note(what + " answered " + got + ", due is " + want, got == want);
+  }
+
   void isTrue(String what, boolean holds) {
+    note("does not hold: " + what, holds);
+  }
+
+  private void note(String wrong, boolean holds) {
+    checksOfSentence++;
     if (holds) {
       passed++;
     } else {
       failed++;
-      System.out.println("does not hold: " + what);
+      System.out.println(sentence + wrong);
     }
   }
 
@@ -36,6 +54,19 @@ final class Checks {
   static void tell(TurfHeaps x, String text) {
     x.wipe();
     say(x, text);
+  }
+
+  /** Puts another text on the pad and does it, which must answer so many acts. */
+  void does(TurfHeaps x, String text, int acts) {
+    tell(x, text);
+    equal("done() of '" + text + "'", x.done(), acts);
+  }
+
+  /** Another text, judged: the first act that can not be, and why. */
+  void judged(TurfHeaps x, String text, int act, int why) {
+    tell(x, text);
+    equal("judge(0) of '" + text + "'", x.judge(0), act);
+    equal("judge(1) of '" + text + "'", x.judge(1), why);
   }
 
   /** All that can be asked without changing anything: 37 calls. */
@@ -68,7 +99,9 @@ final class Checks {
   }
 
   void end(String test) {
-    System.out.println(test + ": " + passed + " checks hold, " + failed + " do not");
+    endSentence();
+    String told = sentences > 0 ? sentences + " sentences, " : "";
+    System.out.println(test + ": " + told + passed + " checks hold, " + failed + " do not");
     if (failed > 0 || passed == 0) {
       System.exit(1);
     }

@@ -490,6 +490,9 @@ final class Model {
 
   /** Up to 24 turfs by trying each game to its end, which takes too long for more. */
   static int takes(int n, int what) {
+    if (!in(n, 0, 60) || !in(what, 0, 1)) {
+      return OUTSIDE;
+    }
     for (int take = 1; take <= 2; take++) {
       for (int left = 0; left + take <= n; left++) {
         int[] rows = new int[25];

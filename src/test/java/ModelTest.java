@@ -1,7 +1,8 @@
 /** Long runs of calls, drawn by fixed numbers, of the class and of the plain model: each answer must be the same. */
 public final class ModelTest {
   private static final int RUNS = 600;
-  private static final int CALLS = 350;
+  /** So many calls an object is used for, by the document; what later ones answer is free. */
+  private static final int CALLS = 512;
   private static final int[] ODD = {-1, -2, -6, 25, 26, 61, 99, 100, 127, 10000, Integer.MAX_VALUE, Integer.MIN_VALUE};
   private static final Checks checks = new Checks();
 
@@ -49,6 +50,9 @@ public final class ModelTest {
 
   private static void same(String call, long got, long want) {
     calls++;
+    if (calls > CALLS) {
+      return;
+    }
     checks.equal("run " + run + ", call " + calls + ": " + call, got, want);
   }
 

@@ -21,39 +21,33 @@ public final class WeeksTest {
     checks.end("WeeksTest");
   }
 
-  private static void judged(TurfHeaps x, String text, int act, int why) {
-    Checks.tell(x, text);
-    checks.equal("judge(0) of '" + text + "'", x.judge(0), act);
-    checks.equal("judge(1) of '" + text + "'", x.judge(1), why);
-  }
-
   private static void promise7EachReason() {
     TurfHeaps x = new TurfHeaps();
     x.heap(0, 0, 4, 9);
     x.heap(1, 1, 0, 0);
-    judged(x, "", NONE, NONE);
-    judged(x, "B+B-B*", NONE, NONE);
-    judged(x, "C+", 0, 1);
-    judged(x, "C-", 0, 1);
-    judged(x, "C*", 0, 1);
-    judged(x, "C^", 0, 1);
-    judged(x, "Ba", 0, 2);
-    judged(x, "Ac", 0, 3);
-    judged(x, "Aa", 0, 3);
-    judged(x, "Bb", NONE, NONE);
-    judged(x, "A*", 0, 3);
-    judged(x, ".B*", NONE, NONE);
-    judged(x, ".A*", 1, 4);
-    judged(x, ".AaA*", NONE, NONE);
-    judged(x, "A+", 0, 5);
-    judged(x, "B-", 0, 5);
-    judged(x, "A-A+A+", 2, 5);
-    judged(x, "CcA^B^C^", 3, 6);
-    judged(x, "CcA^B^A^C^", NONE, NONE);
-    judged(x, "A^A^A^A^", NONE, NONE);
-    judged(x, ".....B*B*C+", 6, 3);
+    checks.judged(x, "", NONE, NONE);
+    checks.judged(x, "B+B-B*", NONE, NONE);
+    checks.judged(x, "C+", 0, 1);
+    checks.judged(x, "C-", 0, 1);
+    checks.judged(x, "C*", 0, 1);
+    checks.judged(x, "C^", 0, 1);
+    checks.judged(x, "Ba", 0, 2);
+    checks.judged(x, "Ac", 0, 3);
+    checks.judged(x, "Aa", 0, 3);
+    checks.judged(x, "Bb", NONE, NONE);
+    checks.judged(x, "A*", 0, 3);
+    checks.judged(x, ".B*", NONE, NONE);
+    checks.judged(x, ".A*", 1, 4);
+    checks.judged(x, ".AaA*", NONE, NONE);
+    checks.judged(x, "A+", 0, 5);
+    checks.judged(x, "B-", 0, 5);
+    checks.judged(x, "A-A+A+", 2, 5);
+    checks.judged(x, "CcA^B^C^", 3, 6);
+    checks.judged(x, "CcA^B^A^C^", NONE, NONE);
+    checks.judged(x, "A^A^A^A^", NONE, NONE);
+    checks.judged(x, ".....B*B*C+", 6, 3);
     x.burners(0);
-    judged(x, "A^", 0, 6);
+    checks.judged(x, "A^", 0, 6);
   }
 
   private static void promise7LeastReason() {
@@ -61,12 +55,12 @@ public final class WeeksTest {
     x.heap(0, 0, 4, 0);
     x.heap(1, 1, 4, 0);
     x.burners(0);
-    judged(x, "Ab", 0, 2);
-    judged(x, "C^", 0, 1);
-    judged(x, "Ca", 0, 2);
+    checks.judged(x, "Ab", 0, 2);
+    checks.judged(x, "C^", 0, 1);
+    checks.judged(x, "Ca", 0, 2);
     x.heap(2, -1, 0, 0);
-    judged(x, "C-", 0, 1);
-    judged(x, ".C-A+", 1, 1);
+    checks.judged(x, "C-", 0, 1);
+    checks.judged(x, ".C-A+", 1, 1);
   }
 
   private static void promise7Nights() {
@@ -76,16 +70,16 @@ public final class WeeksTest {
     checks.equal("sixty nights", x.done(), 60);
     Checks.tell(x, sixty.substring(0, 38));
     checks.equal("night 98", x.done(), 38);
-    judged(x, ".", NONE, NONE);
-    judged(x, "..", 1, 7);
-    judged(x, "Aa.B+.", 2, 1);
-    judged(x, "Aa.A+.", 3, 7);
+    checks.judged(x, ".", NONE, NONE);
+    checks.judged(x, "..", 1, 7);
+    checks.judged(x, "Aa.B+.", 2, 1);
+    checks.judged(x, "Aa.A+.", 3, 7);
     Checks.tell(x, ".");
     checks.equal("night 99", x.done(), 1);
     checks.equal("told", x.told(5), 99);
-    judged(x, ".", 0, 7);
+    checks.judged(x, ".", 0, 7);
     checks.equal("no more", x.done(), NO);
-    judged(x, "AaA*", NONE, NONE);
+    checks.judged(x, "AaA*", NONE, NONE);
   }
 
   private static void promise7Refused() {
