@@ -62,6 +62,14 @@ final class Checks {
     equal("done() of '" + text + "'", x.done(), acts);
   }
 
+  /** A new object on which so many nights have gone. */
+  TurfHeaps late(int night) {
+    TurfHeaps x = new TurfHeaps();
+    does(x, ".".repeat(night / 2), night / 2);
+    does(x, ".".repeat(night - night / 2), night - night / 2);
+    return x;
+  }
+
   /** Another text, judged: the first act that can not be, and why. */
   void judged(TurfHeaps x, String text, int act, int why) {
     tell(x, text);

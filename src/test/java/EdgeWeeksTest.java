@@ -156,7 +156,7 @@ public final class EdgeWeeksTest {
 
   private static void promise7Reason7Night99() {
     checks.about(7, "7 it is night 99 (.)");
-    TurfHeaps x = late(98);
+    TurfHeaps x = checks.late(98);
     checks.judged(x, ".", NONE, NONE);
     checks.judged(x, "..", 1, 7);
     checks.does(x, ".", 1);
@@ -164,14 +164,6 @@ public final class EdgeWeeksTest {
     checks.judged(x, ".", 0, 7);
     checks.judged(x, "AaA*A^.", 3, 7);
     checks.judged(x, "AaA*A^", NONE, NONE);
-  }
-
-  /** So many nights have gone. */
-  private static TurfHeaps late(int night) {
-    TurfHeaps x = new TurfHeaps();
-    checks.does(x, ".".repeat(night / 2), night / 2);
-    checks.does(x, ".".repeat(night - night / 2), night - night / 2);
-    return x;
   }
 
   private static void promise7LeastReason() {
@@ -583,7 +575,7 @@ public final class EdgeWeeksTest {
       Checks.tell(x, text);
       checks.equal("done() of '" + text + "'", x.done(), NO);
     }
-    TurfHeaps y = late(99);
+    TurfHeaps y = checks.late(99);
     y.say('.');
     checks.equal("a hundredth night", y.done(), NO);
   }
@@ -781,7 +773,7 @@ public final class EdgeWeeksTest {
 
   private static void promise10TheNight() {
     checks.about(10, "the night (4)");
-    TurfHeaps x = late(97);
+    TurfHeaps x = checks.late(97);
     Checks.say(x, "Aa");
     checks.equal("none more", x.then(4), 97);
     Checks.say(x, "..");

@@ -182,25 +182,18 @@ public final class EdgeYearTest {
     }
   }
 
-  private static TurfHeaps late(int night) {
-    TurfHeaps x = new TurfHeaps();
-    checks.does(x, ".".repeat(night / 2), night / 2);
-    checks.does(x, ".".repeat(night - night / 2), night - night / 2);
-    return x;
-  }
-
   private static void promise21NoNightBehind99() {
     checks.about(21, "each if that can be: no night behind night 99");
-    TurfHeaps x = late(99);
+    TurfHeaps x = checks.late(99);
     x.heap(3, 0, 9, 0);
-    TurfHeaps y = late(98);
+    TurfHeaps y = checks.late(98);
     y.heap(3, 0, 1, 5);
     y.burners(0);
     for (int seed = 0; seed < 300; seed++) {
       checks.equal("night 99, seed " + seed, x.year(seed, 99, 0), 0);
       checks.equal("night 98, a heap that needs two nights, seed " + seed, y.year(seed, 8, 0), 0);
     }
-    TurfHeaps z = late(98);
+    TurfHeaps z = checks.late(98);
     z.heap(3, 0, 9, 0);
     for (int seed = 0; seed < 300; seed++) {
       boolean isNight = next(seed) / 6 % 8 >= 5;
@@ -312,6 +305,7 @@ public final class EdgeYearTest {
     promise23Burners();
     promise23TheNight();
     promise23Sights();
+    promise23TheEighthSight();
     promise23ThePadStays();
     promise23AsOftenAsAsked();
     promise23WhatIsDoneLaterIsNoMatter();
@@ -470,7 +464,7 @@ public final class EdgeYearTest {
 
   private static void promise23TheNight() {
     checks.about(23, "as it was when it was kept: the night");
-    TurfHeaps x = late(98);
+    TurfHeaps x = checks.late(98);
     x.image(1);
     checks.does(x, ".", 1);
     checks.judged(x, ".", 0, 7);
@@ -504,6 +498,30 @@ public final class EdgeYearTest {
     checks.equal("eight", x.told(6), 8);
     checks.equal("what these tell", x.matter(0), 60);
     checks.equal("no room", x.seen(2, 0), TurfHeaps.FULL);
+  }
+
+  private static void sights(TurfHeaps x, int last) {
+    x.forget();
+    for (int i = 0; i < 7; i++) {
+      x.seen(0, 2);
+    }
+    x.seen(1, last);
+  }
+
+  private static void promise23TheEighthSight() {
+    checks.about(23, "as it was when it was kept: SIGHTS, 8 at most");
+    TurfHeaps x = new TurfHeaps();
+    sights(x, 2);
+    x.image(0);
+    sights(x, 6);
+    x.image(1);
+    sights(x, 3);
+    x.restore(0);
+    checks.equal("the eighth told 2", x.matter(0), 20);
+    x.restore(1);
+    checks.equal("the eighth told 6", x.matter(0), 24);
+    x.restore(0);
+    checks.equal("the eighth told 2, again", x.matter(0), 20);
   }
 
   private static void promise23ThePadStays() {

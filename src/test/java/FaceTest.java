@@ -50,7 +50,6 @@ public final class FaceTest {
 
   private static void methods(Checks checks) {
     Set<String> found = new TreeSet<>();
-    Set<String> faceNames = new TreeSet<>();
     for (Method method : TurfHeaps.class.getDeclaredMethods()) {
       if (!Modifier.isPrivate(method.getModifiers())) {
         StringBuilder line = new StringBuilder(method.getReturnType() + " " + method.getName() + "(");
@@ -60,18 +59,12 @@ public final class FaceTest {
           comma = ",";
         }
         found.add(line.append(")").toString());
-        faceNames.add(method.getName());
         checks.isTrue(line + " is public, not static",
             Modifier.isPublic(method.getModifiers()) && !Modifier.isStatic(method.getModifiers()));
       }
     }
     Set<String> wanted = new TreeSet<>(Arrays.asList(METHODS));
     checks.isTrue("the methods are those of the document: " + found, found.equals(wanted));
-    for (Method method : TurfHeaps.class.getDeclaredMethods()) {
-      if (Modifier.isPrivate(method.getModifiers())) {
-        checks.isTrue("private, but named as one of the face: " + method, !faceNames.contains(method.getName()));
-      }
-    }
   }
 
   private static void fields(Checks checks) {
