@@ -67,7 +67,6 @@ public final class TurfHeaps {
   private final Week week;
   private final DueRows dueRows;
   private final int[] fitting;
-  private final int[] colourCounts;
   private final int[] rowValues;
   private int rowValuesKnown;
 
@@ -80,7 +79,6 @@ public final class TurfHeaps {
     week = new Week();
     dueRows = new DueRows();
     fitting = new int[MATTERS];
-    colourCounts = new int[COLOURS];
     rowValues = new int[LONGEST_ROW + 1];
     rowValuesKnown = 1; // a row of no turfs has the value 0, as it stands
   }
@@ -338,16 +336,21 @@ public final class TurfHeaps {
 
   /** How many of those that fit are left at the most, when the colour of a night is told. */
   private int mostLeft(int night, int count) {
-    for (int colour = 0; colour < COLOURS; colour++) {
-      colourCounts[colour] = 0;
-    }
     int most = 0;
-    for (int i = 0; i < count && i < MATTERS; i++) {
-      int colour = colourOf(fitting[i] / 10, fitting[i] % 10, night);
-      colourCounts[colour]++;
-      most = Math.max(most, colourCounts[colour]);
+    for (int colour = 0; colour < COLOURS; colour++) {
+      most = Math.max(most, countLeft(night, colour, count));
     }
     return most;
+  }
+
+  private int countLeft(int night, int colour, int count) {
+    int left = 0;
+    for (int i = 0; i < count && i < MATTERS; i++) {
+      if (colourOf(fitting[i] / 10, fitting[i] % 10, night) == colour) {
+        left++;
+      }
+    }
+    return left;
   }
 
   private static int colourOf(int first, int more, int night) {
@@ -445,7 +448,7 @@ public final class TurfHeaps {
     int x = seed;
     for (int act = 0; act < m; act++) {
       x = (75 * x + 74) % 65537;
-      int heap = x % HEAPS;
+      int heap = Math.floorMod(x, HEAPS);
       int kind = Math.min(x / HEAPS % YEAR_KINDS, NIGHT);
       int cell = x / (HEAPS * YEAR_KINDS) % CELLS;
       if (trial.reasonAgainst(kind, heap, cell) == NO_REASON) {
@@ -922,12 +925,10 @@ public final class TurfHeaps {
   private static final class DueRows {
     final int[] nights;
     final int[] days;
-    final int[] byDay;
 
     DueRows() {
       nights = new int[MOST_DUE];
       days = new int[MOST_DUE];
-      byDay = new int[MOST_DUE];
     }
 
     /** Whether the number has just n digits, none of them 0. */
@@ -959,7 +960,6 @@ public final class TurfHeaps {
 
     /** The bits of as many as can be drawn in time, the least of these. */
     int mostInTime(int n) {
-      sortByDay(n);
       int best = 0;
       for (int drawn = 1; drawn < 1 << n; drawn++) {
         if (Integer.bitCount(drawn) > Integer.bitCount(best) && areInTime(drawn, n)) {
@@ -969,30 +969,25 @@ public final class TurfHeaps {
       return best;
     }
 
-    void sortByDay(int n) {
-      for (int i = 0; i < n && i < MOST_DUE; i++) {
-        int place = i;
-        while (place > 0 && days[byDay[place - 1]] > days[i]) {
-          byDay[place] = byDay[place - 1];
-          place--;
-        }
-        byDay[place] = i;
-      }
-    }
-
     /** If these can be drawn in time at all, they can in the order of their days. */
     boolean areInTime(int drawn, int n) {
-      int night = 0;
       for (int i = 0; i < n && i < MOST_DUE; i++) {
-        int heap = byDay[i];
-        if (hasBit(drawn, heap)) {
-          night += nights[heap];
-          if (night > days[heap]) {
-            return false;
-          }
+        if (hasBit(drawn, i) && nightsUntil(days[i], drawn, n) > days[i]) {
+          return false;
         }
       }
       return true;
+    }
+
+    /** The nights that are taken by all of these that must be drawn by a day. */
+    int nightsUntil(int day, int drawn, int n) {
+      int sum = 0;
+      for (int i = 0; i < n && i < MOST_DUE; i++) {
+        if (hasBit(drawn, i) && days[i] <= day) {
+          sum += nights[i];
+        }
+      }
+      return sum;
     }
   }
 }

@@ -50,6 +50,7 @@ public final class LanguageTest {
     rule4Library(code);
     rule5StaticFields(code, classes);
     rule6Exceptions(code);
+    rule7IndexesLookedAt(parts);
     rule8NoRecursionAndRule11Depth(parts);
     rule9Loops(code);
     rule11Sizes(parts, classes);
@@ -136,7 +137,7 @@ public final class LanguageTest {
 
   private static void rule4Library(String code) {
     noWord("rule 4", code, "import", "package", "System", "Thread", "Arrays", "List");
-    Set<String> allowed = Set.of("Math.max", "Math.min", "Math.abs", "Integer.bitCount");
+    Set<String> allowed = Set.of("Math.max", "Math.min", "Math.abs", "Math.floorMod", "Integer.bitCount");
     Matcher names = Pattern.compile("\\b([A-Z][A-Za-z]*)\\.([a-zA-Z]+)").matcher(code);
     while (names.find()) {
       checks.isTrue("rule 4: " + names.group(), allowed.contains(names.group()) || names.group(1).equals("Pad"));
@@ -158,6 +159,32 @@ public final class LanguageTest {
   private static void rule6Exceptions(String code) {
     noWord("rule 6", code, "throw", "throws", "try", "catch", "finally", "synchronized", "assert", "instanceof",
         "Exception", "equals", "hashCode", "toString", "yield", "record", "native");
+  }
+
+  /**
+   * An index is a number that the method counts, was given or has tested (who calls it looks at what it hands over), or
+   * one less another; it comes from no array, no call and no remainder, whose ends nobody would have looked at.
+   */
+  private static void rule7IndexesLookedAt(List<Part> parts) {
+    int found = 0;
+    for (Part part : parts) {
+      String uses = part.text.replaceAll("new int\\[", "new int(");
+      Matcher indexes = Pattern.compile("\\w\\[([^\\]]*)").matcher(uses);
+      while (indexes.find()) {
+        String index = indexes.group(1);
+        String where = "rule 7: in " + part.name + " the index " + index;
+        boolean isPlain = index.matches("\\w+( - \\w+)*");
+        checks.isTrue(where + " is plain", isPlain);
+        for (String name : isPlain ? index.split(" - ") : new String[0]) {
+          Matcher given = Pattern.compile("\\b" + name + " = ([^;]*);").matcher(uses);
+          while (given.find()) {
+            checks.isTrue(where + " is not " + given.group(1), !given.group(1).matches(".*[\\[(%/].*"));
+          }
+        }
+        found++;
+      }
+    }
+    checks.isTrue("rule 7: indexes looked at: " + found, found > 40);
   }
 
   /** Methods of one name are taken as one, so that no way is overlooked. */
